@@ -1,0 +1,68 @@
+import java.util.NoSuchElementException;
+import java.util.function.IntSupplier;
+
+/** Counts the calls whose answer is not the one that is due, and tells where they stand. */
+final class Checks {
+    static final Class<? extends RuntimeException> BAD = IllegalArgumentException.class;
+    static final Class<? extends RuntimeException> NOT_THERE = NoSuchElementException.class;
+    static final Class<? extends RuntimeException> FULL = IllegalStateException.class;
+    static final Class<? extends RuntimeException> CONFLICT = IllegalStateException.class;
+    static final Class<? extends RuntimeException> NO_MAJORITY = UnsupportedOperationException.class;
+
+    private static int made = 0;
+    private static int wrong = 0;
+
+    private Checks() {
+    }
+
+    static void answers(int want, IntSupplier call) {
+        String due = String.valueOf(want);
+        same(due, outcome(() -> String.valueOf(call.getAsInt())));
+    }
+
+    static void goes(Runnable call) {
+        same("nothing", outcome(() -> {
+            call.run();
+            return "nothing";
+        }));
+    }
+
+    static void refuses(Class<? extends RuntimeException> kind, Runnable call) {
+        same(kind.getName(), outcome(() -> {
+            call.run();
+            return "nothing";
+        }));
+    }
+
+    static void same(String want, String got) {
+        made++;
+        if (!want.equals(got)) {
+            wrong++;
+            System.out.println(place() + ": answered " + got + ", due is " + want);
+        }
+    }
+
+    static String outcome(java.util.function.Supplier<String> call) {
+        try {
+            return call.get();
+        } catch (RuntimeException e) {
+            return e.getClass().getName();
+        }
+    }
+
+    static void finish() {
+        System.out.println((made - wrong) + " answers as due, " + wrong + " not");
+        if (wrong != 0 || made == 0) {
+            System.exit(1);
+        }
+    }
+
+    private static String place() {
+        for (StackTraceElement frame : new Throwable().getStackTrace()) {
+            if (!frame.getClassName().equals("Checks")) {
+                return frame.getFileName() + ":" + frame.getLineNumber() + " " + frame.getMethodName();
+            }
+        }
+        return "?";
+    }
+}

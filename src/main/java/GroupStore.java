@@ -156,6 +156,7 @@ public final class GroupStore {
         requireMajority(s != NO_SERVER);
         int number = nextNumber();
         boolean done = false;
+        // Behind the end of a caught-up log nothing is accepted, so the later tries only keep the document's limit.
         for (int round = 0; round < DELIVERY_ROUNDS && !done; round++) {
             done = deliversInRound(s, number);
         }

@@ -7,12 +7,16 @@ public final class ModelTest {
     private long seed;
     private final GroupStore store = new GroupStore();
     private final PlainModel model = new PlainModel();
+    // Few groups and transactions and little trouble make a log run full, much of them leaves it short.
     private final int groups;
+    private final int transactions;
+    private final int trouble;
 
     private ModelTest(int run) {
         seed = run * 7919L + 17;
-        // Few groups make a log run full, many leave it short.
         groups = 1 + run % 4;
+        transactions = 1 + run / 4 % 5;
+        trouble = run / 20 % 5;
     }
 
     public static void main(String[] args) {
@@ -56,66 +60,72 @@ public final class ModelTest {
         return number(60) == 0 ? 4 : number(groups);
     }
 
+    private int transaction() {
+        return number(60) == 0 ? 5 : number(transactions);
+    }
+
     private int value() {
         return number(8) == 0 ? Integer.MAX_VALUE - number(3) : number(200) - 100;
     }
 
     private void call(String place) {
-        int kind = number(40);
-        if (kind < 7) {
-            int t = near(5);
+        if (number(20) < trouble) {
+            makeTrouble(place);
+            return;
+        }
+        int kind = number(36);
+        int t = transaction();
+        int g = group();
+        int value = value();
+        if (kind < 6) {
             int s = near(3);
-            int g = group();
             match(place + " begin " + t + " " + s + " " + g, () -> "" + store.begin(t, s, g),
                     () -> "" + model.begin(t, s, g));
-        } else if (kind < 12) {
-            int t = near(5);
+        } else if (kind < 14) {
             int key = near(6);
-            int value = value();
             match(place + " put " + t + " " + key, () -> did(() -> store.put(t, key, value)),
                     () -> did(() -> model.put(t, key, value)));
-        } else if (kind < 15) {
-            int t = near(5);
-            int g = group();
-            int value = value();
+        } else if (kind < 18) {
             match(place + " send " + t + " " + g, () -> did(() -> store.send(t, g, value)),
                     () -> did(() -> model.send(t, g, value)));
-        } else if (kind < 21) {
-            int t = near(5);
+        } else if (kind < 24) {
             match(place + " commit " + t, () -> "" + store.commit(t), () -> "" + model.commit(t));
-        } else if (kind < 25) {
-            int first = near(8);
-            int second = near(8);
-            match(place + " lose " + first + " " + second, () -> did(() -> store.lose(first, second)),
-                    () -> did(() -> model.lose(first, second)));
-        } else if (kind < 29) {
-            int s = near(3);
-            boolean up = number(3) > 0;
-            match(place + " server " + s + " " + up, () -> did(() -> store.server(s, up)),
-                    () -> did(() -> model.server(s, up)));
         } else {
             otherCall(place, kind);
         }
     }
 
-    private void otherCall(String place, int kind) {
-        if (kind < 31) {
-            match(place + " deliver", () -> "" + store.deliver(), () -> "" + model.deliver());
-        } else if (kind < 33) {
-            int t = near(5);
-            int key = near(6);
-            match(place + " get " + t + " " + key, () -> "" + store.get(t, key), () -> "" + model.get(t, key));
-        } else if (kind < 35) {
-            reads(place, near(3), group(), near(6), near(11));
-        } else if (kind < 36) {
+    private void makeTrouble(String place) {
+        if (number(3) == 0) {
             int s = near(3);
-            int g = group();
+            boolean up = number(4) > 0;
+            match(place + " server " + s + " " + up, () -> did(() -> store.server(s, up)),
+                    () -> did(() -> model.server(s, up)));
+        } else {
+            int first = near(8);
+            int second = near(8);
+            match(place + " lose " + first + " " + second, () -> did(() -> store.lose(first, second)),
+                    () -> did(() -> model.lose(first, second)));
+        }
+    }
+
+    private void otherCall(String place, int kind) {
+        int t = transaction();
+        int s = near(3);
+        int g = group();
+        int key = near(6);
+        if (kind < 27) {
+            match(place + " deliver", () -> "" + store.deliver(), () -> "" + model.deliver());
+        } else if (kind < 29) {
+            match(place + " get " + t + " " + key, () -> "" + store.get(t, key), () -> "" + model.get(t, key));
+        } else if (kind < 31) {
+            reads(place, s, g, key, near(11));
+        } else if (kind < 32) {
             match(place + " catchUp " + s + " " + g, () -> "" + store.catchUp(s, g), () -> "" + model.catchUp(s, g));
-        } else if (kind < 37 && number(3) == 0) {
-            int t = near(5);
+        } else if (kind < 33 && number(3) == 0) {
             match(place + " abort " + t, () -> did(() -> store.abort(t)), () -> did(() -> model.abort(t)));
-        } else if (kind < 39) {
-            logs(place, near(3), group(), number(12), near(5));
+        } else if (kind < 35) {
+            logs(place, s, g, number(12), near(5));
         } else {
             counts(place, number(24) - 1);
         }

@@ -20,6 +20,7 @@ public final class PromisesTest {
         abort();
         catchUp();
         catchUpClosesGaps();
+        catchUpAsksOnlyServersThatAreUp();
         catchUpStopsHalfWay();
         read();
         deliver();
@@ -133,11 +134,10 @@ public final class PromisesTest {
         x.lose(3, 6);
         write(x, 0, 1, 0, 1);
         Checks.answers(1, () -> x.commit(0));
-        Checks.answers(2, () -> x.log(0, 0, 1, 1));
-        Checks.answers(2, () -> x.log(1, 0, 1, 1));
-        Checks.answers(0, () -> x.log(2, 0, 1, 1));
-        Checks.answers(2, () -> x.log(2, 0, 1, 0));
-        Checks.answers(0, () -> x.log(2, 0, 1, 3));
+        // Server 0 is reached in the second half alone and promises there, server 2 in the first alone.
+        logIs(x, 0, 0, 1, "2 2 1 1 1");
+        logIs(x, 1, 0, 1, "2 2 1 1 1");
+        logIs(x, 2, 0, 1, "2 0 0 0 0");
     }
 
     // Promise 4
@@ -356,10 +356,7 @@ public final class PromisesTest {
         Checks.answers(0, () -> x.catchUp(2, 1));
         Checks.answers(2, () -> x.count(3));
         // What is told by another server changes neither the promise nor what was accepted.
-        Checks.answers(0, () -> x.log(2, 0, 1, 0));
-        Checks.answers(0, () -> x.log(2, 0, 1, 1));
-        Checks.answers(1, () -> x.log(2, 0, 1, 3));
-        Checks.answers(1, () -> x.log(2, 0, 1, 4));
+        logIs(x, 2, 0, 1, "0 0 0 1 1");
         for (int[] bad : new int[][] {{-1, 0}, {3, 0}, {0, -1}, {0, 4}}) {
             Checks.refuses(Checks.BAD, () -> x.catchUp(bad[0], bad[1]));
         }
@@ -394,6 +391,29 @@ public final class PromisesTest {
         Checks.answers(2, () -> x.catchUp(2, 0));
         Checks.answers(2, () -> x.read(2, 0, 0, 0));
         Checks.answers(1, () -> x.read(2, 0, 0, 1));
+        Checks.answers(2, () -> x.count(3));
+        // A round of another server that reaches the gap closes it as well.
+        GroupStore y = new GroupStore();
+        write(y, 0, 1, 0, 9);
+        y.server(2, false);
+        commitWrite(y, 0, 0, 0, 1);
+        y.server(2, true);
+        commitWrite(y, 0, 0, 0, 2);
+        Checks.answers(0, () -> y.count(18));
+        Checks.refuses(Checks.CONFLICT, () -> y.commit(0));
+        Checks.answers(2, () -> y.count(18));
+    }
+
+    private static void catchUpAsksOnlyServersThatAreUp() {
+        GroupStore x = new GroupStore();
+        x.lose(0, 4);
+        commitWrite(x, 0, 0, 0, 1);
+        x.server(0, false);
+        x.server(1, false);
+        Checks.refuses(Checks.NO_MAJORITY, () -> x.catchUp(2, 0));
+        Checks.answers(0, () -> x.count(18));
+        x.server(1, true);
+        Checks.answers(1, () -> x.catchUp(2, 0));
         Checks.answers(2, () -> x.count(3));
     }
 
@@ -642,6 +662,18 @@ public final class PromisesTest {
         Checks.refuses(Checks.CONFLICT, () -> x.commit(2));
         logIs(x, 0, 0, 1, "3 3 2 1 2");
         logIs(x, 2, 0, 1, "3 3 2 1 2");
+        // The same with the greatest ballot at the least server.
+        GroupStore v = new GroupStore();
+        write(v, 0, 0, 0, 1);
+        write(v, 1, 1, 0, 2);
+        write(v, 2, 2, 0, 3);
+        v.lose(0, 5);
+        Checks.refuses(Checks.NO_MAJORITY, () -> v.commit(1));
+        v.lose(2, 6);
+        Checks.refuses(Checks.NO_MAJORITY, () -> v.commit(0));
+        logIs(v, 0, 0, 1, "5 5 2 0 0");
+        Checks.refuses(Checks.CONFLICT, () -> v.commit(2));
+        logIs(v, 1, 0, 1, "7 7 2 1 2");
         // What is known as chosen goes before what is accepted.
         GroupStore y = new GroupStore();
         write(y, 0, 0, 0, 1);

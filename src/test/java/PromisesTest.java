@@ -586,7 +586,7 @@ public final class PromisesTest {
         x.server(2, true);
         x.catchUp(2, 0);
         Checks.answers(2, () -> x.count(2));
-        // Server 1 alone of those reached knows the position: the round tells it to server 2 again.
+        // Of those reached server 1 alone knows the position: that round tells server 2 and adds no message.
         GroupStore y = new GroupStore();
         y.begin(0, 0, 0);
         y.begin(1, 2, 0);

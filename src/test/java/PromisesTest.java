@@ -72,7 +72,7 @@ public final class PromisesTest {
         Checks.goes(() -> x.server(1, false));
         Checks.answers(2, () -> x.count(0));
         Checks.refuses(Checks.NO_MAJORITY, () -> x.catchUp(1, 0));
-        commitWrite(x, 0, 0, 1, 1);
+        Steps.commitWrite(x, 0, 0, 1, 1);
         Checks.answers(0, () -> x.log(1, 0, 1, 0));
         Checks.answers(0, () -> x.log(1, 0, 1, 3));
         Checks.goes(() -> x.server(1, true));
@@ -98,32 +98,32 @@ public final class PromisesTest {
         Checks.refuses(Checks.BAD, () -> x.lose(0, -1));
         Checks.refuses(Checks.BAD, () -> x.lose(0, 8));
         // The refused ones left 7 and 7 standing.
-        write(x, 0, 0, 0, 1);
+        Steps.write(x, 0, 0, 0, 1);
         Checks.refuses(Checks.NO_MAJORITY, () -> x.commit(0));
         // The later of two masks stands alone.
         x.lose(7, 7);
         x.lose(0, 0);
-        write(x, 0, 0, 0, 1);
+        Steps.write(x, 0, 0, 0, 1);
         Checks.answers(1, () -> x.commit(0));
     }
 
     private static void lossIsForOneRound() {
         GroupStore x = new GroupStore();
         x.lose(6, 6);
-        write(x, 0, 0, 0, 1);
+        Steps.write(x, 0, 0, 0, 1);
         Checks.refuses(Checks.NO_MAJORITY, () -> x.commit(0));
         Checks.answers(1, () -> x.log(0, 0, 1, 0));
         Checks.answers(0, () -> x.log(0, 0, 1, 1));
         Checks.answers(0, () -> x.log(1, 0, 1, 0));
         // The second mask is gone too, though that round had no second half.
-        write(x, 0, 0, 0, 1);
+        Steps.write(x, 0, 0, 0, 1);
         Checks.answers(1, () -> x.commit(0));
         Checks.answers(1, () -> x.log(1, 0, 1, 3));
         // A commit that runs no round leaves the masks as they are.
         x.lose(0, 4);
         x.begin(1, 1, 0);
         Checks.answers(0, () -> x.commit(1));
-        write(x, 1, 1, 0, 2);
+        Steps.write(x, 1, 1, 0, 2);
         Checks.answers(2, () -> x.commit(1));
         Checks.answers(0, () -> x.log(2, 0, 2, 3));
         Checks.answers(1, () -> x.log(0, 0, 2, 3));
@@ -132,12 +132,12 @@ public final class PromisesTest {
     private static void lossLeavesTheRunner() {
         GroupStore x = new GroupStore();
         x.lose(3, 6);
-        write(x, 0, 1, 0, 1);
+        Steps.write(x, 0, 1, 0, 1);
         Checks.answers(1, () -> x.commit(0));
         // Server 0 is reached in the second half alone and promises there, server 2 in the first alone.
-        logIs(x, 0, 0, 1, "2 2 1 1 1");
-        logIs(x, 1, 0, 1, "2 2 1 1 1");
-        logIs(x, 2, 0, 1, "2 0 0 0 0");
+        Steps.logIs(x, 0, 0, 1, "2 2 1 1 1");
+        Steps.logIs(x, 1, 0, 1, "2 2 1 1 1");
+        Steps.logIs(x, 2, 0, 1, "2 0 0 0 0");
     }
 
     // Promise 4
@@ -164,15 +164,15 @@ public final class PromisesTest {
     private static void beginCatchesUp() {
         GroupStore x = new GroupStore();
         x.server(2, false);
-        commitWrite(x, 0, 0, 3, 30);
-        commitWrite(x, 0, 0, 3, 31);
+        Steps.commitWrite(x, 0, 0, 3, 30);
+        Steps.commitWrite(x, 0, 0, 3, 31);
         x.server(2, true);
         Checks.answers(0, () -> x.count(18));
         Checks.answers(2, () -> x.begin(1, 2, 0));
         Checks.answers(2, () -> x.count(18));
         Checks.answers(31, () -> x.get(1, 3));
         // What it sees stays that of its base.
-        commitWrite(x, 0, 0, 3, 32);
+        Steps.commitWrite(x, 0, 0, 3, 32);
         Checks.answers(31, () -> x.get(1, 3));
         Checks.answers(32, () -> x.read(2, 0, 3, 0));
         x.server(2, false);
@@ -184,7 +184,7 @@ public final class PromisesTest {
     private static void get() {
         GroupStore x = new GroupStore();
         Checks.refuses(Checks.NOT_THERE, () -> x.get(0, 0));
-        commitWrite(x, 0, 0, 5, -7);
+        Steps.commitWrite(x, 0, 0, 5, -7);
         Checks.refuses(Checks.NOT_THERE, () -> x.get(0, 5));
         x.begin(0, 1, 0);
         Checks.answers(-7, () -> x.get(0, 5));
@@ -252,8 +252,8 @@ public final class PromisesTest {
     private static void commit() {
         GroupStore x = new GroupStore();
         Checks.refuses(Checks.NOT_THERE, () -> x.commit(0));
-        write(x, 0, 0, 1, 10);
-        write(x, 1, 2, 2, 20);
+        Steps.write(x, 0, 0, 1, 10);
+        Steps.write(x, 1, 2, 2, 20);
         Checks.answers(1, () -> x.commit(0));
         Checks.answers(1, () -> x.count(1));
         Checks.refuses(Checks.NOT_THERE, () -> x.commit(0));
@@ -275,14 +275,14 @@ public final class PromisesTest {
 
     private static void commitThatIsRefused() {
         GroupStore x = new GroupStore();
-        write(x, 0, 1, 0, 1);
+        Steps.write(x, 0, 1, 0, 1);
         x.server(1, false);
         Checks.refuses(Checks.NO_MAJORITY, () -> x.commit(0));
         Checks.refuses(Checks.NOT_THERE, () -> x.get(0, 0));
         Checks.answers(0, () -> x.count(6));
         Checks.answers(0, () -> x.count(3));
         x.server(1, true);
-        fill(x, 2);
+        Steps.fill(x, 2);
         Checks.answers(10, () -> x.begin(0, 1, 2));
         x.put(0, 0, 1);
         Checks.refuses(Checks.FULL, () -> x.commit(0));
@@ -316,8 +316,8 @@ public final class PromisesTest {
         Checks.answers(2, () -> x.log(2, 0, 1, 1));
         // Another one's commit there brings the lost entry in and is refused.
         GroupStore y = new GroupStore();
-        write(y, 0, 0, 0, 7);
-        write(y, 1, 1, 0, 8);
+        Steps.write(y, 0, 0, 0, 7);
+        Steps.write(y, 1, 1, 0, 8);
         y.lose(0, 6);
         Checks.refuses(Checks.NO_MAJORITY, () -> y.commit(0));
         Checks.refuses(Checks.CONFLICT, () -> y.commit(1));
@@ -330,8 +330,8 @@ public final class PromisesTest {
     private static void abort() {
         GroupStore x = new GroupStore();
         Checks.refuses(Checks.NOT_THERE, () -> x.abort(0));
-        write(x, 0, 0, 0, 1);
-        write(x, 1, 0, 0, 2);
+        Steps.write(x, 0, 0, 0, 1);
+        Steps.write(x, 1, 0, 0, 2);
         Checks.goes(() -> x.abort(0));
         Checks.answers(1, () -> x.count(1));
         Checks.refuses(Checks.NOT_THERE, () -> x.abort(0));
@@ -348,20 +348,20 @@ public final class PromisesTest {
     private static void catchUp() {
         GroupStore x = new GroupStore();
         x.server(2, false);
-        commitWrite(x, 0, 0, 0, 1);
-        commitWrite(x, 0, 0, 0, 2);
+        Steps.commitWrite(x, 0, 0, 0, 1);
+        Steps.commitWrite(x, 0, 0, 0, 2);
         Checks.refuses(Checks.NO_MAJORITY, () -> x.catchUp(2, 0));
         x.server(2, true);
         Checks.answers(2, () -> x.catchUp(2, 0));
         Checks.answers(0, () -> x.catchUp(2, 1));
         Checks.answers(2, () -> x.count(3));
         // What is told by another server changes neither the promise nor what was accepted.
-        logIs(x, 2, 0, 1, "0 0 0 1 1");
+        Steps.logIs(x, 2, 0, 1, "0 0 0 1 1");
         for (int[] bad : new int[][] {{-1, 0}, {3, 0}, {0, -1}, {0, 4}}) {
             Checks.refuses(Checks.BAD, () -> x.catchUp(bad[0], bad[1]));
         }
         // An entry that only a server that is down has accepted: the empty one takes its place.
-        write(x, 0, 0, 4, 44);
+        Steps.write(x, 0, 0, 4, 44);
         x.lose(0, 6);
         Checks.refuses(Checks.NO_MAJORITY, () -> x.commit(0));
         x.server(0, false);
@@ -381,9 +381,9 @@ public final class PromisesTest {
     private static void catchUpClosesGaps() {
         GroupStore x = new GroupStore();
         x.server(2, false);
-        commitWrite(x, 0, 0, 0, 1);
+        Steps.commitWrite(x, 0, 0, 0, 1);
         x.server(2, true);
-        commitWrite(x, 0, 0, 0, 2);
+        Steps.commitWrite(x, 0, 0, 0, 2);
         Checks.answers(1, () -> x.log(2, 0, 2, 3));
         Checks.answers(0, () -> x.count(18));
         Checks.refuses(Checks.NOT_THERE, () -> x.read(2, 0, 0, 0));
@@ -394,11 +394,11 @@ public final class PromisesTest {
         Checks.answers(2, () -> x.count(3));
         // A round of another server that reaches the gap closes it as well.
         GroupStore y = new GroupStore();
-        write(y, 0, 1, 0, 9);
+        Steps.write(y, 0, 1, 0, 9);
         y.server(2, false);
-        commitWrite(y, 0, 0, 0, 1);
+        Steps.commitWrite(y, 0, 0, 0, 1);
         y.server(2, true);
-        commitWrite(y, 0, 0, 0, 2);
+        Steps.commitWrite(y, 0, 0, 0, 2);
         Checks.answers(0, () -> y.count(18));
         Checks.refuses(Checks.CONFLICT, () -> y.commit(0));
         Checks.answers(2, () -> y.count(18));
@@ -407,7 +407,7 @@ public final class PromisesTest {
     private static void catchUpAsksOnlyServersThatAreUp() {
         GroupStore x = new GroupStore();
         x.lose(0, 4);
-        commitWrite(x, 0, 0, 0, 1);
+        Steps.commitWrite(x, 0, 0, 0, 1);
         x.server(0, false);
         x.server(1, false);
         Checks.refuses(Checks.NO_MAJORITY, () -> x.catchUp(2, 0));
@@ -420,7 +420,7 @@ public final class PromisesTest {
     private static void catchUpStopsHalfWay() {
         GroupStore x = new GroupStore();
         x.server(2, false);
-        commitWrite(x, 0, 0, 0, 1);
+        Steps.commitWrite(x, 0, 0, 0, 1);
         x.begin(0, 0, 0);
         x.put(0, 0, 2);
         x.lose(0, 6);
@@ -440,9 +440,9 @@ public final class PromisesTest {
 
     private static void read() {
         GroupStore x = new GroupStore();
-        commitWrite(x, 0, 0, 0, 1);
-        commitWrite(x, 0, 0, 1, 5);
-        commitWrite(x, 0, 0, 0, 3);
+        Steps.commitWrite(x, 0, 0, 0, 1);
+        Steps.commitWrite(x, 0, 0, 1, 5);
+        Steps.commitWrite(x, 0, 0, 0, 3);
         x.server(1, false);
         Checks.answers(3, () -> x.read(1, 0, 0, 0));
         Checks.answers(3, () -> x.read(1, 0, 0, 3));
@@ -459,7 +459,7 @@ public final class PromisesTest {
         for (int[] bad : bads) {
             Checks.refuses(Checks.BAD, () -> x.read(bad[0], bad[1], bad[2], bad[3]));
         }
-        fill(x, 2);
+        Steps.fill(x, 2);
         Checks.answers(10, () -> x.read(0, 2, 0, 10));
         Checks.answers(10, () -> x.read(0, 2, 0, 0));
     }
@@ -492,7 +492,7 @@ public final class PromisesTest {
         Checks.answers(5, () -> x.count(3));
         Checks.refuses(Checks.NOT_THERE, () -> x.deliver());
         // A value of key 5 that a transaction wrote is added to.
-        commitWrite(x, 0, 2, 5, 100);
+        Steps.commitWrite(x, 0, 2, 5, 100);
         x.begin(1, 0, 1);
         x.send(1, 2, -1);
         x.commit(1);
@@ -505,7 +505,7 @@ public final class PromisesTest {
 
     private static void deliverThatIsRefused() {
         GroupStore x = new GroupStore();
-        commitMessage(x, 0, 1, 5);
+        Steps.commitMessage(x, 0, 1, 5);
         x.server(0, false);
         x.server(1, false);
         x.server(2, false);
@@ -528,9 +528,9 @@ public final class PromisesTest {
         Checks.answers(3, () -> x.log(0, 1, 1, 4));
         Checks.answers(4, () -> x.log(0, 1, 2, 4));
         Checks.answers(1, () -> x.count(7));
-        fill(x, 3);
-        commitMessage(x, 0, 3, 5);
-        commitMessage(x, 0, 1, 5);
+        Steps.fill(x, 3);
+        Steps.commitMessage(x, 0, 3, 5);
+        Steps.commitMessage(x, 0, 1, 5);
         int given = x.count(6);
         Checks.refuses(Checks.FULL, () -> x.deliver());
         Checks.refuses(Checks.FULL, () -> x.deliver());
@@ -541,9 +541,9 @@ public final class PromisesTest {
 
     private static void deliverCatchesUpFirst() {
         GroupStore x = new GroupStore();
-        commitMessage(x, 2, 1, 5);
+        Steps.commitMessage(x, 2, 1, 5);
         x.server(0, false);
-        commitWrite(x, 1, 1, 5, 20);
+        Steps.commitWrite(x, 1, 1, 5, 20);
         x.begin(0, 1, 1);
         x.put(0, 5, 30);
         x.send(0, 3, 1);
@@ -561,8 +561,8 @@ public final class PromisesTest {
         Checks.answers(1, () -> x.read(0, 3, 5, 0));
         // The loss falls on the round of the catching up, which ends it all.
         GroupStore y = new GroupStore();
-        commitMessage(y, 0, 1, 5);
-        write(y, 0, 1, 1, 0, 1);
+        Steps.commitMessage(y, 0, 1, 5);
+        Steps.write(y, 0, 1, 1, 0, 1);
         y.lose(0, 5);
         Checks.refuses(Checks.NO_MAJORITY, () -> y.commit(0));
         y.lose(6, 0);
@@ -604,18 +604,18 @@ public final class PromisesTest {
 
     private static void log() {
         GroupStore x = new GroupStore();
-        write(x, 0, 1, 0, 1);
+        Steps.write(x, 0, 1, 0, 1);
         x.lose(1, 5);
         Checks.refuses(Checks.NO_MAJORITY, () -> x.commit(0));
-        logIs(x, 0, 0, 1, "0 0 0 0 0");
-        logIs(x, 1, 0, 1, "2 2 1 0 0");
-        logIs(x, 2, 0, 1, "2 0 0 0 0");
+        Steps.logIs(x, 0, 0, 1, "0 0 0 0 0");
+        Steps.logIs(x, 1, 0, 1, "2 2 1 0 0");
+        Steps.logIs(x, 2, 0, 1, "2 0 0 0 0");
         Checks.answers(1, () -> x.catchUp(2, 0));
-        logIs(x, 0, 0, 1, "3 3 1 1 1");
-        logIs(x, 1, 0, 1, "3 3 1 1 1");
-        logIs(x, 2, 0, 1, "3 3 1 1 1");
-        logIs(x, 0, 0, 2, "0 0 0 0 0");
-        logIs(x, 0, 1, 1, "0 0 0 0 0");
+        Steps.logIs(x, 0, 0, 1, "3 3 1 1 1");
+        Steps.logIs(x, 1, 0, 1, "3 3 1 1 1");
+        Steps.logIs(x, 2, 0, 1, "3 3 1 1 1");
+        Steps.logIs(x, 0, 0, 2, "0 0 0 0 0");
+        Steps.logIs(x, 0, 1, 1, "0 0 0 0 0");
         int[][] bads = {{-1, 0, 1, 0}, {3, 0, 1, 0}, {0, -1, 1, 0}, {0, 4, 1, 0}, {0, 0, 0, 0}, {0, 0, 11, 0},
             {0, 0, Integer.MIN_VALUE, 0}, {0, 0, 1, -1}, {0, 0, 1, 5}};
         for (int[] bad : bads) {
@@ -627,76 +627,76 @@ public final class PromisesTest {
     private static void ballots() {
         GroupStore x = new GroupStore();
         // Server 2's promise of 3 counts although it is not up: server 0's least ballot above it is 5.
-        write(x, 0, 2, 0, 1);
+        Steps.write(x, 0, 2, 0, 1);
         x.lose(3, 0);
         Checks.refuses(Checks.NO_MAJORITY, () -> x.commit(0));
-        logIs(x, 2, 0, 1, "3 0 0 0 0");
+        Steps.logIs(x, 2, 0, 1, "3 0 0 0 0");
         x.server(2, false);
-        write(x, 0, 0, 0, 1);
-        write(x, 1, 1, 0, 1);
+        Steps.write(x, 0, 0, 0, 1);
+        Steps.write(x, 1, 1, 0, 1);
         x.lose(6, 0);
         Checks.refuses(Checks.NO_MAJORITY, () -> x.commit(0));
-        logIs(x, 0, 0, 1, "5 0 0 0 0");
+        Steps.logIs(x, 0, 0, 1, "5 0 0 0 0");
         // Server 1 after server 0 stays in the same step, server 0 after itself goes to the next.
         x.lose(5, 0);
         Checks.refuses(Checks.NO_MAJORITY, () -> x.commit(1));
-        logIs(x, 1, 0, 1, "6 0 0 0 0");
-        write(x, 0, 0, 0, 1);
+        Steps.logIs(x, 1, 0, 1, "6 0 0 0 0");
+        Steps.write(x, 0, 0, 0, 1);
         Checks.answers(1, () -> x.commit(0));
-        logIs(x, 0, 0, 1, "9 9 4 1 4");
-        logIs(x, 2, 0, 1, "3 0 0 0 0");
+        Steps.logIs(x, 0, 0, 1, "9 9 4 1 4");
+        Steps.logIs(x, 2, 0, 1, "3 0 0 0 0");
     }
 
     private static void greatestBallotWins() {
         GroupStore x = new GroupStore();
-        write(x, 0, 0, 0, 1);
-        write(x, 1, 1, 0, 2);
-        write(x, 2, 2, 0, 3);
+        Steps.write(x, 0, 0, 0, 1);
+        Steps.write(x, 1, 1, 0, 2);
+        Steps.write(x, 2, 2, 0, 3);
         x.lose(0, 6);
         Checks.refuses(Checks.NO_MAJORITY, () -> x.commit(0));
         // Server 0 is not reached in the first half, so its entry is not seen.
         x.lose(1, 5);
         Checks.refuses(Checks.NO_MAJORITY, () -> x.commit(1));
-        logIs(x, 0, 0, 1, "1 1 1 0 0");
-        logIs(x, 1, 0, 1, "2 2 2 0 0");
+        Steps.logIs(x, 0, 0, 1, "1 1 1 0 0");
+        Steps.logIs(x, 1, 0, 1, "2 2 2 0 0");
         Checks.refuses(Checks.CONFLICT, () -> x.commit(2));
-        logIs(x, 0, 0, 1, "3 3 2 1 2");
-        logIs(x, 2, 0, 1, "3 3 2 1 2");
+        Steps.logIs(x, 0, 0, 1, "3 3 2 1 2");
+        Steps.logIs(x, 2, 0, 1, "3 3 2 1 2");
         // The same with the greatest ballot at the least server.
         GroupStore v = new GroupStore();
-        write(v, 0, 0, 0, 1);
-        write(v, 1, 1, 0, 2);
-        write(v, 2, 2, 0, 3);
+        Steps.write(v, 0, 0, 0, 1);
+        Steps.write(v, 1, 1, 0, 2);
+        Steps.write(v, 2, 2, 0, 3);
         v.lose(0, 5);
         Checks.refuses(Checks.NO_MAJORITY, () -> v.commit(1));
         v.lose(2, 6);
         Checks.refuses(Checks.NO_MAJORITY, () -> v.commit(0));
-        logIs(v, 0, 0, 1, "5 5 2 0 0");
+        Steps.logIs(v, 0, 0, 1, "5 5 2 0 0");
         Checks.refuses(Checks.CONFLICT, () -> v.commit(2));
-        logIs(v, 1, 0, 1, "7 7 2 1 2");
+        Steps.logIs(v, 1, 0, 1, "7 7 2 1 2");
         // What is known as chosen goes before what is accepted.
         GroupStore y = new GroupStore();
-        write(y, 0, 0, 0, 1);
-        write(y, 1, 1, 0, 2);
-        write(y, 2, 0, 0, 3);
+        Steps.write(y, 0, 0, 0, 1);
+        Steps.write(y, 1, 1, 0, 2);
+        Steps.write(y, 2, 0, 0, 3);
         y.lose(0, 6);
         Checks.refuses(Checks.NO_MAJORITY, () -> y.commit(0));
         y.lose(1, 1);
         Checks.answers(1, () -> y.commit(1));
         Checks.refuses(Checks.CONFLICT, () -> y.commit(2));
-        logIs(y, 0, 0, 1, "5 5 2 1 2");
+        Steps.logIs(y, 0, 0, 1, "5 5 2 1 2");
         // An empty entry that was accepted is one too.
         GroupStore z = new GroupStore();
-        write(z, 0, 0, 0, 1);
-        write(z, 1, 2, 0, 2);
+        Steps.write(z, 0, 0, 0, 1);
+        Steps.write(z, 1, 2, 0, 2);
         z.lose(0, 6);
         Checks.refuses(Checks.NO_MAJORITY, () -> z.commit(0));
         z.server(0, false);
         z.lose(0, 4);
         Checks.refuses(Checks.NO_MAJORITY, () -> z.catchUp(1, 0));
-        logIs(z, 1, 0, 1, "2 2 0 0 0");
+        Steps.logIs(z, 1, 0, 1, "2 2 0 0 0");
         Checks.refuses(Checks.CONFLICT, () -> z.commit(1));
-        logIs(z, 2, 0, 1, "3 3 0 1 0");
+        Steps.logIs(z, 2, 0, 1, "3 3 0 1 0");
     }
 
     // Promise 14
@@ -707,8 +707,8 @@ public final class PromisesTest {
             Checks.answers(-1, () -> x.count(what));
         }
         x.server(1, false);
-        commitWrite(x, 2, 3, 0, 1);
-        commitMessage(x, 0, 3, 2);
+        Steps.commitWrite(x, 2, 3, 0, 1);
+        Steps.commitMessage(x, 0, 3, 2);
         x.server(1, true);
         Checks.answers(1, () -> x.count(13));
         Checks.answers(0, () -> x.count(17));
@@ -716,8 +716,8 @@ public final class PromisesTest {
         Checks.answers(1, () -> x.count(10));
         Checks.answers(0, () -> x.count(14));
         Checks.answers(1, () -> x.count(18));
-        write(x, 0, 0, 0, 1);
-        write(x, 1, 0, 0, 1);
+        Steps.write(x, 0, 0, 0, 1);
+        Steps.write(x, 1, 0, 0, 1);
         Checks.answers(2, () -> x.count(1));
         x.commit(0);
         Checks.refuses(Checks.CONFLICT, () -> x.commit(1));
@@ -731,8 +731,8 @@ public final class PromisesTest {
 
     private static void noMajoritiesAreCounted() {
         GroupStore x = new GroupStore();
-        commitMessage(x, 0, 1, 1);
-        write(x, 0, 0, 0, 1);
+        Steps.commitMessage(x, 0, 1, 1);
+        Steps.write(x, 0, 0, 0, 1);
         x.server(0, false);
         Checks.refuses(Checks.NO_MAJORITY, () -> x.begin(1, 0, 0));
         Checks.answers(1, () -> x.count(8));
@@ -755,8 +755,8 @@ public final class PromisesTest {
 
     private static void beginWithoutMajorityKeepsTheOldOne() {
         GroupStore x = new GroupStore();
-        write(x, 0, 0, 0, 1);
-        write(x, 1, 0, 0, 2);
+        Steps.write(x, 0, 0, 0, 1);
+        Steps.write(x, 1, 0, 0, 2);
         x.lose(0, 6);
         Checks.refuses(Checks.NO_MAJORITY, () -> x.commit(1));
         x.begin(2, 2, 1);
@@ -775,7 +775,7 @@ public final class PromisesTest {
 
     private static void emptyCommit() {
         GroupStore x = new GroupStore();
-        commitWrite(x, 0, 0, 0, 1);
+        Steps.commitWrite(x, 0, 0, 0, 1);
         x.begin(0, 1, 0);
         x.server(1, false);
         Checks.answers(0, () -> x.commit(0));
@@ -784,7 +784,7 @@ public final class PromisesTest {
         Checks.answers(1, () -> x.count(6));
         Checks.answers(1, () -> x.count(3));
         Checks.answers(0, () -> x.count(8));
-        fill(x, 3);
+        Steps.fill(x, 3);
         Checks.answers(10, () -> x.begin(0, 0, 3));
         Checks.answers(0, () -> x.commit(0));
     }
@@ -807,44 +807,5 @@ public final class PromisesTest {
         x.send(0, 0, 1);
         Checks.refuses(Checks.BAD, () -> x.put(0, 6, 0));
         Checks.refuses(Checks.BAD, () -> x.send(0, 4, 0));
-    }
-
-    // What several of them do
-
-    /** Opens transaction t at the server for group 0 and puts one value. */
-    private static void write(GroupStore x, int t, int s, int key, int value) {
-        write(x, t, s, 0, key, value);
-    }
-
-    private static void write(GroupStore x, int t, int s, int g, int key, int value) {
-        Checks.goes(() -> x.begin(t, s, g));
-        Checks.goes(() -> x.put(t, key, value));
-    }
-
-    private static void commitWrite(GroupStore x, int s, int g, int key, int value) {
-        write(x, 4, s, g, key, value);
-        Checks.goes(() -> x.commit(4));
-    }
-
-    /** An entry of group 0 with one message. */
-    private static void commitMessage(GroupStore x, int s, int group, int value) {
-        Checks.goes(() -> x.begin(4, s, 0));
-        Checks.goes(() -> x.send(4, group, value));
-        Checks.goes(() -> x.commit(4));
-    }
-
-    /** Fills the log of the group: position p writes p to key 0. */
-    private static void fill(GroupStore x, int g) {
-        for (int p = 1; p <= 10; p++) {
-            commitWrite(x, 0, g, 0, p);
-        }
-    }
-
-    private static void logIs(GroupStore x, int s, int g, int position, String want) {
-        StringBuilder got = new StringBuilder();
-        for (int what = 0; what < 5; what++) {
-            got.append(what == 0 ? "" : " ").append(x.log(s, g, position, what));
-        }
-        Checks.same(want, got.toString());
     }
 }

@@ -12,6 +12,7 @@ public final class DeliveringTest {
         entries();
         fullGroups();
         catchingUpFirst();
+        roundsOfADelivering();
         lostDeliverings();
         Checks.finish();
     }
@@ -387,6 +388,35 @@ public final class DeliveringTest {
             Steps.logIs(x, 2, 1, 1, "2 0 0 0 0");
             Steps.logIs(x, 2, 1, 2, "1 1 3 1 3");
         });
+    }
+
+    private static void roundsOfADelivering() {
+        Checks.sentence("at most 4 ROUNDS in all: after CATCHING UP the first one settles it", () -> {
+            for (int lost = 0; lost < 3; lost++) {
+                for (int masks = 0; masks < 64; masks++) {
+                    oneRoundSettlesIt(lost, masks / 8, masks % 8);
+                }
+            }
+        });
+    }
+
+    /** The lost entry stands where the delivering would write, so catching up takes the round with the loss. */
+    private static void oneRoundSettlesIt(int lost, int first, int second) {
+        GroupStore x = new GroupStore();
+        Steps.commitMessage(x, 0, 1, 5);
+        Steps.loseWrite(x, lost, 1, 0, 7);
+        x.lose(first, second);
+        boolean majority = Integer.bitCount(first | 1) < 3 && Integer.bitCount(second | 1) < 3;
+        if (majority) {
+            Checks.answers(0, () -> x.deliver());
+        } else {
+            Checks.refuses(Checks.NO_MAJORITY, () -> x.deliver());
+        }
+        Checks.answers(majority ? 4 : 3, () -> x.count(3));
+        Checks.answers(majority ? 0 : 1, () -> x.count(2));
+        Checks.answers(3, () -> x.count(6));
+        Checks.answers(majority ? 2 : 0, () -> x.count(11));
+        Checks.answers(majority ? 3 : 0, () -> x.log(0, 1, 2, 4));
     }
 
     private static void lostDeliverings() {
